@@ -23,7 +23,7 @@ public final class NextOneKnows {
     private final State now = new State();
     private final State imaged = new State();
     private boolean hasImage;
-    private final Ahead ahead = new Ahead();
+    private final Ahead ahead = new Ahead(now);
     private final Post[] posts = new Post[POSTS];
     private int postCount;
     private final byte[] text = new byte[SIGNS];
@@ -36,7 +36,7 @@ public final class NextOneKnows {
     public NextOneKnows() {
         Arrays.fill(sorts, NO_ROW);
         for (int k = 0; k < posts.length; k++) {
-            posts[k] = new Post();
+            posts[k] = new Post(text);
         }
     }
 
@@ -70,8 +70,8 @@ public final class NextOneKnows {
             case 5: return of.need;
             case 6: return bit(now.needless, doing);
             case 7: return bit(now.known, doing);
-            case 8: return ahead.saidOf(now, of);
-            case 9: return ahead.saidOf(now, of) >= of.need ? 1 : 0;
+            case 8: return ahead.saidOf(of);
+            case 9: return ahead.saidOf(of) >= of.need ? 1 : 0;
             case 10: return now.dearIn(of, now.week);
             case 11: return now.odds[of.i];
             default: return NO_SUCH;
@@ -138,7 +138,7 @@ public final class NextOneKnows {
             return FULL;
         }
         Post next = posts[postCount];
-        int fault = next.readFrom(text, signs);
+        int fault = next.readFrom(signs);
         signs = 0;
         if (fault >= 0) {
             return FAULT_FROM - fault;
@@ -171,7 +171,7 @@ public final class NextOneKnows {
     // ---- handing over, weeks
 
     public int hand() {
-        ahead.hear(now);
+        ahead.hear();
         int fresh = ahead.goingOver(now.hours) & ~now.known;
         now.known |= fresh;
         return Integer.bitCount(fresh);
@@ -184,7 +184,7 @@ public final class NextOneKnows {
         if (now.week + n > WEEK_MOST) {
             return STATE;
         }
-        ahead.look(now, n);
+        ahead.look(n);
         now.costs += ahead.pass(now.known, now.needless);
         now.stops += ahead.stops;
         now.calls += ahead.calls;
@@ -200,7 +200,7 @@ public final class NextOneKnows {
         if (isNot(n, 0, RUN_MOST)) {
             return NOT_AS_TOLD;
         }
-        ahead.look(now, n);
+        ahead.look(n);
         int costs = ahead.pass(now.known, now.needless);
         switch (what) {
             case 0: return costs;
@@ -221,8 +221,8 @@ public final class NextOneKnows {
         if (isNot(h, 0, DIGIT_MOST) || isNot(n, 0, ASKED_MOST)) {
             return NOT_AS_TOLD;
         }
-        ahead.look(now, n);
-        ahead.hear(now);
+        ahead.look(n);
+        ahead.hear();
         int least = ahead.bestSplit(h);
         return way < 0 ? least : ahead.best[way];
     }
@@ -237,8 +237,8 @@ public final class NextOneKnows {
         if (now.hours[way] >= DIGIT_MOST) {
             return 0;
         }
-        ahead.look(now, n);
-        ahead.hear(now);
+        ahead.look(n);
+        ahead.hear();
         return ahead.costHanded(now.hours) - ahead.costHanded(ahead.hourMore(way));
     }
 
@@ -246,7 +246,7 @@ public final class NextOneKnows {
         if (isNot(n, 0, ASKED_MOST)) {
             return BAD;
         }
-        ahead.look(now, n);
+        ahead.look(n);
         return ahead.bestOf(~now.known, true);
     }
 
@@ -254,7 +254,7 @@ public final class NextOneKnows {
         if (isNot(n, 0, ASKED_MOST)) {
             return BAD;
         }
-        ahead.look(now, n);
+        ahead.look(n);
         return ahead.bestOf(~now.needless, false);
     }
 
@@ -315,7 +315,7 @@ public final class NextOneKnows {
     }
 
     public int looked() {
-        ahead.look(now, LIST_WEEKS);
+        ahead.look(now.weeksToRows());
         ahead.pass(now.known, now.needless);
         return ahead.firstRowNotSo();
     }
@@ -324,7 +324,7 @@ public final class NextOneKnows {
         if (now.count > FITS_DOINGS) {
             return TOO_MANY;
         }
-        ahead.look(now, LIST_WEEKS);
+        ahead.look(now.weeksToRows());
         int fitting = 0;
         for (int set = 0; set <= now.everyDoing(); set++) {
             ahead.pass(set, now.needless);
@@ -808,6 +808,15 @@ public final class NextOneKnows {
             return rows;
         }
 
+        /** How many WEEKS from now on tell of all rows: RUN of 100 tells no more of them. */
+        int weeksToRows() {
+            int weeks = 0;
+            for (int r = 0; r < rows; r++) {
+                weeks = Math.max(weeks, rowWeeks[r] - week + 1);
+            }
+            return Math.min(weeks, LIST_WEEKS);
+        }
+
         int everyDoing() {
             return (1 << count) - 1;
         }
@@ -855,7 +864,7 @@ public final class NextOneKnows {
 
     /** Looks at WEEKS to come and changes nothing of how all is. Its rows serve every call anew. */
     private static final class Ahead {
-        private State now;
+        private final State now;
         // What was looked at: how many WEEKS, who comes round in each, DEAR by DOING and WEEK modulo 60.
         private int span;
         private final int[] coming = new int[RUN_MOST];
@@ -869,9 +878,12 @@ public final class NextOneKnows {
         private final int[] shares = new int[WAYS];
         final int[] best = new int[WAYS];
 
+        Ahead(State now) {
+            this.now = now;
+        }
+
         /** Makes ready for pass(): n WEEKS from how all is. */
-        void look(State how, int n) {
-            now = how;
+        void look(int n) {
             span = Math.max(0, Math.min(n, RUN_MOST));
             Arrays.fill(dear, -1);
             for (int on = 0; on < span; on++) {
@@ -895,8 +907,7 @@ public final class NextOneKnows {
         }
 
         /** Makes ready for goingOver() and what asks it. */
-        void hear(State how) {
-            now = how;
+        void hear() {
             for (int d = 0; d < now.count; d++) {
                 Doing of = now.find(d);
                 if (of != null) {
@@ -911,8 +922,7 @@ public final class NextOneKnows {
             }
         }
 
-        int saidOf(State how, Doing of) {
-            now = how;
+        int saidOf(Doing of) {
             hearOf(of);
             return of.saidOver(said[of.i], now.hours);
         }
@@ -1055,14 +1065,17 @@ public final class NextOneKnows {
         private final int[] codes = new int[SIGNS];
         private int codeCount;
         // While it is read: THE TEXT, the place come to, and whether what stands there is a FAULT.
-        private byte[] text;
+        private final byte[] text;
         private int length, at;
         private boolean faulty;
 
-        /** Becomes the POST that THE TEXT is: -1, or the FAULT. */
-        int readFrom(byte[] signs, int many) {
-            text = signs;
-            length = Math.min(many, signs.length);
+        Post(byte[] text) {
+            this.text = text;
+        }
+
+        /** Becomes the POST that the first signs of THE TEXT are: -1, or the FAULT. */
+        int readFrom(int signs) {
+            length = Math.min(signs, text.length);
             at = 0;
             faulty = false;
             clauses = 0;
