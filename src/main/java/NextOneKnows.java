@@ -1025,18 +1025,18 @@ public final class NextOneKnows {
 
         /** The DOING of a set by which it costs least, if it were known (or else needless) now; NEVER: none. */
         int bestOf(int set, boolean asKnown) {
-            int best = NEVER, least = Integer.MAX_VALUE;
+            int found = NEVER, least = Integer.MAX_VALUE;
             for (int d = 0; d < now.count; d++) {
                 if (bit(set, d) != 0) {
                     int one = 1 << d;
                     int cost = asKnown ? pass(now.known | one, now.needless) : pass(now.known, now.needless | one);
                     if (cost < least) {
                         least = cost;
-                        best = d;
+                        found = d;
                     }
                 }
             }
-            return best;
+            return found;
         }
 
         /** The first row of the LIST that was not so in the latest pass(); NEVER: none. */
